@@ -99,6 +99,7 @@ public final class ActionTextTest {
             for (char sign = 33; sign <= 126; sign++) {
                 boolean isOther = sign >= '0' && sign <= '5' && sign != asker;
                 dueError("a" + asker + asker + sign, isOther ? 4 : 3);
+                dueError("a7" + asker + sign, isOther ? 4 : 3);
             }
         }
         dueError("a012", 4);
@@ -170,6 +171,7 @@ public final class ActionTextTest {
             d.fallSilent(5);
             Checks.due("30: t" + number, runOf(d, "t" + number), 1);
             Checks.due("30: patience after t" + number, d.patience(0, 0), number == 20 ? 20 : 20 - number);
+            Checks.due("30: asked() after t" + number, d.asked(), number == 20 ? 8 : 0);
         }
         DealDoubts d = new DealDoubts();
         d.begin(0, 6, 0);

@@ -161,6 +161,16 @@ public final class DealsTest {
         d.vote(2, 2, false);
         Checks.due("4: one has dropped it", d.decide(2), 3);
         Checks.dueLog("4: the third deal", d, 3, 5, 26);
+        for (int working = 0; working < 6; working++) {
+            DealDoubts e = new DealDoubts();
+            e.begin(5, 63, 0);
+            for (int site = 0; site < 6; site++) {
+                if (site != working) {
+                    e.vote(0, site, true);
+                }
+            }
+            Checks.due("4: only site " + working + " is working", e.decide(0), 3);
+        }
     }
 
     private static void promise4DecideRefusals() {

@@ -134,6 +134,20 @@ public final class QueriesTest {
         Checks.due("17: a decision does not end it", d.open(), 1);
         d.tell(1, 1);
         Checks.due("17: all have ended", d.open(), 0);
+        for (int last = 0; last < 6; last++) {
+            DealDoubts e = new DealDoubts();
+            e.begin(5, 63, 0);
+            for (int site = 0; site < 6; site++) {
+                if (site != last) {
+                    e.vote(0, site, false);
+                }
+            }
+            Checks.due("17: only site " + last + " is working", e.open(), 1);
+            e.vote(0, last, true);
+            Checks.due("17: only site " + last + " is in doubt", e.open(), 1);
+            e.ask(0, last, (last + 1) % 6);
+            Checks.due("17: none is", e.open(), 0);
+        }
     }
 
     private static void promise18Stuck() {
