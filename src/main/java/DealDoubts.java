@@ -374,7 +374,7 @@ public final class DealDoubts {
         }
 
         boolean isAwake(int site) {
-            return isSite(site) && (sitesUp >> site & 1) != 0;
+            return site >= 0 && site < SITES && (sitesUp >> site & 1) != 0;
         }
 
         int leaderOf(int deal) {
@@ -552,7 +552,7 @@ public final class DealDoubts {
         }
 
         private void write(int site, int entry) {
-            if (isSite(site) && logLengths[site] < LOG_LIMIT) {
+            if (site >= 0 && site < SITES && logLengths[site] < LOG_LIMIT) {
                 logs[site * LOG_LIMIT + logLengths[site]] = entry;
                 logLengths[site]++;
             }
@@ -707,17 +707,19 @@ public final class DealDoubts {
         }
 
         int helperFor(int deal, int site) {
+            int leader = leaderOf(deal);
             for (int other = 0; other < SITES; other++) {
-                if (canAsk(deal, site, other) && hasAnswer(deal, other)) {
+                boolean hasAnswer = other == leader || isAnswer(stateOf(deal, other));
+                if (hasAnswer && canAsk(deal, site, other)) {
                     return other;
                 }
             }
             return NONE;
         }
 
-        private boolean hasAnswer(int deal, int other) {
-            int state = stateOf(deal, other);
-            return other == leaderOf(deal) || state == WORKING || isEnd(state);
+        private static boolean isAnswer(int state) {
+            // A working member that is asked drops the deal first, and so has an answer.
+            return state == WORKING || isEnd(state);
         }
 
         // Hash
