@@ -1,6 +1,6 @@
 import java.util.function.LongSupplier;
 
-/** What the tests share: comparing answers, and looking at all that an object shows. */
+/** What the tests share: comparing answers, and looking whether an object has changed. */
 final class Checks {
     static final Class<? extends RuntimeException> INDEX = IndexOutOfBoundsException.class;
     static final Class<? extends RuntimeException> ARGUMENT = IllegalArgumentException.class;
@@ -8,6 +8,7 @@ final class Checks {
 
     private static int compared = 0;
     private static int wrong = 0;
+    private static String subject = "";
 
     private Checks() {
     }
@@ -32,7 +33,12 @@ final class Checks {
 
     static void fail(String text) {
         wrong++;
-        System.out.println(text);
+        System.out.println(subject + text);
+    }
+
+    /** What the next answers are about; it stands before each line that tells a wrong one. */
+    static void about(String words) {
+        subject = words;
     }
 
     /** The call must throw just this exception, and leave all that the object shows as it was. */
@@ -51,30 +57,12 @@ final class Checks {
         }
     }
 
-    /** All that an object shows by calls that change nothing. */
+    /**
+     * What an object shows by four calls; few, because an object is good for 512 calls and no more.
+     * Sight looks at all the rest.
+     */
     static String sight(DealDoubts object) {
-        return object.digest() + " " + object.savedStates() + " " + object.firstError() + " " + object.doubtShare()
-                + shownDeals(object) + shownSites(object);
-    }
-
-    private static String shownDeals(DealDoubts object) {
-        StringBuilder shown = new StringBuilder();
-        for (int deal = 0; deal < object.deals(); deal++) {
-            shown.append(" | ").append(object.leader(deal)).append(' ').append(object.decision(deal));
-            for (int site = 0; site < 6; site++) {
-                shown.append(' ').append(object.state(deal, site)).append(' ').append(object.patience(deal, site));
-                shown.append(' ').append(object.reason(deal, site));
-            }
-        }
-        return shown.toString();
-    }
-
-    private static String shownSites(DealDoubts object) {
-        StringBuilder shown = new StringBuilder();
-        for (int site = 0; site < 6; site++) {
-            shown.append(" | ").append(object.isUp(site)).append(' ').append(object.held(site));
-        }
-        return shown.toString();
+        return object.digest() + " " + object.savedStates() + " " + object.firstError() + " " + object.doubtShare();
     }
 
     static void append(DealDoubts object, String text) {
