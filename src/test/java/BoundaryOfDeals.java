@@ -244,6 +244,7 @@ final class BoundaryOfDeals extends Bounds {
         holds(2, "A call that throws an exception changes nothing.", () -> {
             refused("no leader", INDEX, FULL, d -> d.begin(6, 3, 0));
             refused("no members", ARGUMENT, RICH, d -> d.begin(0, 0, 0));
+            refused("no item", ARGUMENT, RICH, d -> d.begin(0, 3, 10));
             refused("a silent leader", STATE, RICH, d -> d.begin(4, 3, 0));
         });
     }

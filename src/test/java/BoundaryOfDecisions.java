@@ -240,6 +240,7 @@ final class BoundaryOfDecisions extends Bounds {
         });
         holds(6, "Returns the state of the member that asks after the call.", () -> {
             answers("in doubt", () -> Worlds.inDoubt(1), d -> 10 * d.ask(0, 0, 1) + d.state(0, 0), 11);
+            answers("in doubt, no member is asked", () -> Worlds.deal(5, 3, 3), d -> 10 * d.ask(0, 0, 4) + d.state(0, 0), 11);
             answers("done", BoundaryOfDecisions::toDoIt, d -> 10 * d.ask(0, 0, 5) + d.state(0, 0), 22);
             answers("dropped", () -> askers(1), d -> 10 * d.ask(0, 0, 1) + d.state(0, 0), 33);
         });

@@ -319,6 +319,12 @@ final class BoundaryOfSites extends Bounds {
 
     private static void questionsInTicks() {
         holds(9, "the member asks all other sites that are up", () -> {
+            DealDoubts c = Worlds.deal(0, 3, 1);
+            c.pass(3);
+            due("one other has an answer, asked()", c.asked(), 1);
+            DealDoubts b = Worlds.deal(0, 33, 33);
+            b.pass(3);
+            due("0 asks 1 to 5; then 5 asks 0, asked()", b.asked(), 6);
             DealDoubts d = Worlds.silent(Worlds.deal(5, 3, 3), 5);
             d.pass(3);
             due("four others are up, asked()", d.asked(), 2 * 4);

@@ -276,7 +276,7 @@ final class BoundaryOfText extends Bounds {
                     d.vote(0, 1, true);
                     d.fallSilent(5);
                     return d;
-                }, d -> 100 * runOf(d, "t" + number) + d.patience(0, 0), 100 + (ticks < 20 ? 20 - ticks : 20));
+                }, d -> 1000 * runOf(d, "t" + number) + 100 * d.asked() + d.patience(0, 0), ticks < 20 ? 1020 - ticks : 1820);
             }
             for (String text : new String[] {"t", "t0", "t01", "t21", "t100", "t1;t"}) {
                 refused("run() of " + text, ARGUMENT, () -> typed(text), DealDoubts::run);
@@ -415,6 +415,7 @@ final class BoundaryOfText extends Bounds {
             }
         });
         holds(30, "A call that throws an exception changes nothing.", () -> {
+            refused("run() in a rich world", ARGUMENT, RICH, DealDoubts::run);
             refused("run() of good actions and a bad one", ARGUMENT, () -> type(Worlds.working(8), "y00;y01;d0;x"),
                 DealDoubts::run);
             refused("run() of a full buffer", ARGUMENT, () -> typed("x0;".repeat(19) + "x0;"), DealDoubts::run);

@@ -64,6 +64,7 @@ final class BoundaryOfUndo extends Bounds {
                 for (int call = 0; call < undone; call++) {
                     d.undo();
                 }
+                due("savedStates() after as many undo()", d.savedStates(), 0);
                 int due = calls - undone == 0 ? 3 : calls - undone + 3;
                 due("the patience before the last six of " + calls, d.setPatience(1), due);
             }

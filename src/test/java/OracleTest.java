@@ -49,7 +49,8 @@ public final class OracleTest {
 
     private boolean isAsDue() {
         boolean isGood = true;
-        while (isGood && calls < CALLS - 1) {
+        // One round takes four calls at most, but for those that append.
+        while (isGood && calls <= CALLS - 4) {
             isGood = isSame("digest", "()", mine::digest, due::digest) && (chance.nextInt(3) > 0 ? doOne() : askOne());
         }
         return isGood;
