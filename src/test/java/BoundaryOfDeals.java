@@ -176,7 +176,8 @@ final class BoundaryOfDeals extends Bounds {
                 refused("begin of silent leader " + site, STATE, world, d -> d.begin(silent, others, 0));
                 refused("begin of silent member " + site, STATE, world, d -> d.begin((silent + 1) % 6, Worlds.ALL, 0));
                 answers("begin without silent " + site, world, d -> d.begin((silent + 1) % 6, others, 0), 0);
-                answers("begin when it is back", world, d -> d.comeBack(silent) + d.begin(silent, Worlds.ALL, 0), 0);
+                answers("begin when it is back", world,
+                    d -> last(d.comeBack(silent), d.begin(silent, Worlds.ALL, 0)), 0);
             }
             refused("begin of a silent member in a rich world", STATE, RICH, d -> d.begin(0, 17, 0));
         });
@@ -207,7 +208,7 @@ final class BoundaryOfDeals extends Bounds {
         holds(2, "and an item, which is a number from 0 to 9", () -> {
             answers("item 0", EMPTY, d -> d.begin(0, 3, 0), 0);
             answers("item 9", EMPTY, d -> d.begin(0, 3, 9), 0);
-            answers("the same item again", EMPTY, d -> d.begin(0, 3, 9) + d.begin(0, 3, 9), 1);
+            answers("the same item again", EMPTY, d -> inRow(d.begin(0, 3, 9), d.begin(0, 3, 9)), 1);
         });
         holds(2, "For each deal, each member has a state: 0 (working, at first)", () -> {
             DealDoubts d = Worlds.dropped(7);
@@ -328,17 +329,16 @@ final class BoundaryOfDeals extends Bounds {
             dueLog("no", d, 2, 3);
             due("held(2)", d.held(2), 0);
         });
-        holds(3, "The patience of a member for a deal becomes the patience of the settings when it gets into the state 1.",
-            () -> {
-                for (int patience : new int[] {1, 2, 19, 20}) {
-                    DealDoubts d = Worlds.working(2);
-                    d.vote(0, 0, true);
-                    d.setPatience(patience);
-                    d.vote(1, 0, true);
-                    due("patience of the vote before", d.patience(0, 0), 3);
-                    due("patience of the vote after", d.patience(1, 0), patience);
-                }
-            });
+        holds(3, "becomes the patience of the settings when it gets into the state 1", () -> {
+            for (int patience : new int[] {1, 2, 19, 20}) {
+                DealDoubts d = Worlds.working(2);
+                d.vote(0, 0, true);
+                d.setPatience(patience);
+                d.vote(1, 0, true);
+                due("patience of the vote before", d.patience(0, 0), 3);
+                due("patience of the vote after", d.patience(1, 0), patience);
+            }
+        });
         holds(3, "for a vote with yes (when it gets into the state 1) the number 10 * (deal) + 1", () -> {
             DealDoubts d = Worlds.working(8);
             d.vote(7, 0, true);
@@ -364,13 +364,12 @@ final class BoundaryOfDeals extends Bounds {
 
     private static void voteOnHeldItems() {
         holds(3, "but only if it does not hold the same item for another deal", () -> {
-            answers("yes to a later deal", BoundaryOfDeals::sameItems, d -> 10 * d.vote(0, 0, true) + d.vote(1, 0, true), 13);
-            answers("yes to an earlier deal", BoundaryOfDeals::sameItems,
-                d -> 10 * d.vote(1, 0, true) + d.vote(0, 0, true), 13);
-            answers("yes of another site", BoundaryOfDeals::sameItems,
-                d -> 10 * d.vote(0, 0, true) + d.vote(1, 1, true), 11);
-            answers("the next item", BoundaryOfDeals::sameItems, d -> 10 * d.vote(0, 0, true) + d.vote(2, 0, true), 11);
-            answers("the item before", BoundaryOfDeals::sameItems, d -> 10 * d.vote(0, 0, true) + d.vote(3, 0, true), 11);
+            World world = BoundaryOfDeals::sameItems;
+            answers("yes to a later deal", world, d -> inRow(d.vote(0, 0, true), d.vote(1, 0, true)), 13);
+            answers("yes to an earlier deal", world, d -> inRow(d.vote(1, 0, true), d.vote(0, 0, true)), 13);
+            answers("yes of another site", world, d -> inRow(d.vote(0, 0, true), d.vote(1, 1, true)), 11);
+            answers("the next item", world, d -> inRow(d.vote(0, 0, true), d.vote(2, 0, true)), 11);
+            answers("the item before", world, d -> inRow(d.vote(0, 0, true), d.vote(3, 0, true)), 11);
             DealDoubts d = sameItems();
             d.vote(0, 0, true);
             d.vote(1, 0, true);
@@ -378,9 +377,9 @@ final class BoundaryOfDeals extends Bounds {
         });
         holds(3, "A member holds the item of a deal while it is in doubt about this deal.", () -> {
             answers("after no to the other deal", BoundaryOfDeals::sameItems,
-                d -> 10 * d.vote(0, 0, false) + d.vote(1, 0, true), 31);
+                d -> inRow(d.vote(0, 0, false), d.vote(1, 0, true)), 31);
             answers("after the other deal was dropped", BoundaryOfDeals::sameItems,
-                d -> 100 * d.vote(0, 0, true) + 10 * d.ask(0, 0, 5) + d.vote(1, 0, true), 131);
+                d -> inRow(d.vote(0, 0, true), d.ask(0, 0, 5), d.vote(1, 0, true)), 131);
             DealDoubts d = sameItems();
             d.vote(0, 0, true);
             d.vote(0, 1, true);

@@ -23,8 +23,8 @@ final class BoundaryOfDecisions extends Bounds {
         holds(4, "Returns its decision.", () -> {
             for (int deal = 0; deal < 8; deal++) {
                 int there = deal;
-                answers("to do it", () -> Worlds.inDoubt(8), d -> 10 * d.decide(there) + d.decision(there), 22);
-                answers("to drop it", () -> Worlds.working(8), d -> 10 * d.decide(there) + d.decision(there), 33);
+                answers("to do it", () -> Worlds.inDoubt(8), d -> inRow(d.decide(there), d.decision(there)), 22);
+                answers("to drop it", () -> Worlds.working(8), d -> inRow(d.decide(there), d.decision(there)), 33);
             }
         });
         holds(4, "Undoable.", () -> {
@@ -68,7 +68,7 @@ final class BoundaryOfDecisions extends Bounds {
     }
 
     private static void decideTerms() {
-        holds(4, "The leader decides, if it is up and has no decision: if all members are in the state 1, its decision is 2", () -> {
+        holds(4, "if all members are in the state 1, its decision is 2", () -> {
             answers("two of two in doubt", () -> Worlds.deal(5, 3, 3), d -> d.decide(0), 2);
             answers("six of six in doubt", () -> Worlds.inDoubt(1), d -> d.decide(0), 2);
             answers("all in doubt, all but the leader silent",
@@ -81,8 +81,10 @@ final class BoundaryOfDecisions extends Bounds {
                 int last = site;
                 World world = () -> Worlds.deal(5, Worlds.ALL, Worlds.ALL & ~(1 << last));
                 answers("all but " + site + ", which is working", world, d -> d.decide(0), 3);
-                answers("all but " + site + ", which has dropped it", world, d -> d.vote(0, last, false) + d.decide(0), 6);
-                answers("all, when it is in doubt too", world, d -> d.vote(0, last, true) + d.decide(0), 3);
+                answers("all but " + site + ", which has dropped it", world,
+                    d -> inRow(d.vote(0, last, false), d.decide(0)), 33);
+                answers("all, when " + site + " is in doubt too", world,
+                    d -> inRow(d.vote(0, last, true), d.decide(0)), 12);
             }
         });
         holds(4, "2 (to do it) or 3 (to drop it), which is in its log", () -> {
@@ -124,10 +126,10 @@ final class BoundaryOfDecisions extends Bounds {
     private static void tellCalls() {
         dealAndSite(5, "tell", Worlds::decided, DealDoubts::tell, 3);
         holds(5, "Returns the state of the member after the call.", () -> {
-            answers("in doubt, to do it", BoundaryOfDecisions::toDoIt, d -> 10 * d.tell(0, 4) + d.state(0, 4), 22);
-            answers("in doubt, to drop it", BoundaryOfDecisions::toDropIt, d -> 10 * d.tell(0, 0) + d.state(0, 0), 33);
-            answers("dropped already", BoundaryOfDecisions::toDropIt, d -> 10 * d.tell(0, 1) + d.state(0, 1), 33);
-            answers("working, to drop it", BoundaryOfDecisions::toDropIt, d -> 10 * d.tell(0, 2) + d.state(0, 2), 33);
+            answers("in doubt, to do it", BoundaryOfDecisions::toDoIt, d -> inRow(d.tell(0, 4), d.state(0, 4)), 22);
+            answers("in doubt, to drop it", BoundaryOfDecisions::toDropIt, d -> inRow(d.tell(0, 0), d.state(0, 0)), 33);
+            answers("dropped already", BoundaryOfDecisions::toDropIt, d -> inRow(d.tell(0, 1), d.state(0, 1)), 33);
+            answers("working, to drop it", BoundaryOfDecisions::toDropIt, d -> inRow(d.tell(0, 2), d.state(0, 2)), 33);
         });
         holds(5, "Undoable.", () -> {
             undoable("to drop it", BoundaryOfDecisions::toDropIt, d -> d.tell(0, 0));
@@ -156,7 +158,7 @@ final class BoundaryOfDecisions extends Bounds {
             refused("no decision", STATE, RICH, d -> d.tell(0, 0));
             refused("no decision, to the leader", STATE, RICH, d -> d.tell(1, 0));
             refused("no decision, to one that has dropped it", STATE, RICH, d -> d.tell(1, 2));
-            answers("a decision", RICH, d -> d.decide(0) + d.tell(0, 0), 6);
+            answers("a decision", RICH, d -> inRow(d.decide(0), d.tell(0, 0)), 33);
         });
     }
 
@@ -165,11 +167,11 @@ final class BoundaryOfDecisions extends Bounds {
             for (int site = 0; site < 6; site++) {
                 int leader = site;
                 World world = () -> Worlds.deal(leader, Worlds.ALL, Worlds.ALL);
-                answers("to do it", world, d -> 10 * d.decide(0) + d.tell(0, leader), 22);
+                answers("to do it", world, d -> inRow(d.decide(0), d.tell(0, leader)), 22);
                 answers("to drop it", () -> Worlds.deal(leader, Worlds.ALL, 1 << leader),
-                    d -> 10 * d.decide(0) + d.tell(0, leader), 33);
+                    d -> inRow(d.decide(0), d.tell(0, leader)), 33);
                 answers("working, to drop it", () -> Worlds.deal(leader, Worlds.ALL, 0),
-                    d -> 10 * d.decide(0) + d.tell(0, leader), 33);
+                    d -> inRow(d.decide(0), d.tell(0, leader)), 33);
             }
         });
         holds(5, "a member in the state 1 gets into the state that is the number of the decision", () -> {
@@ -194,7 +196,7 @@ final class BoundaryOfDecisions extends Bounds {
             due("done", e.tell(0, 0), 2);
             dueLog("done once", e, 0, 1, 2);
         });
-        holds(5, "saves the state from before the call if it does not throw an exception, even if nothing changes", () -> {
+        holds(5, "if it does not throw an exception, even if nothing changes", () -> {
             DealDoubts d = toDropIt();
             int saved = d.savedStates();
             d.tell(0, 1);
@@ -239,10 +241,11 @@ final class BoundaryOfDecisions extends Bounds {
             noSuchSites("ask of another", () -> askers(1), (d, other) -> d.ask(0, 0, other));
         });
         holds(6, "Returns the state of the member that asks after the call.", () -> {
-            answers("in doubt", () -> Worlds.inDoubt(1), d -> 10 * d.ask(0, 0, 1) + d.state(0, 0), 11);
-            answers("in doubt, no member is asked", () -> Worlds.deal(5, 3, 3), d -> 10 * d.ask(0, 0, 4) + d.state(0, 0), 11);
-            answers("done", BoundaryOfDecisions::toDoIt, d -> 10 * d.ask(0, 0, 5) + d.state(0, 0), 22);
-            answers("dropped", () -> askers(1), d -> 10 * d.ask(0, 0, 1) + d.state(0, 0), 33);
+            answers("in doubt", () -> Worlds.inDoubt(1), d -> inRow(d.ask(0, 0, 1), d.state(0, 0)), 11);
+            answers("in doubt, no member is asked", () -> Worlds.deal(5, 3, 3),
+                d -> inRow(d.ask(0, 0, 4), d.state(0, 0)), 11);
+            answers("done", BoundaryOfDecisions::toDoIt, d -> inRow(d.ask(0, 0, 5), d.state(0, 0)), 22);
+            answers("dropped", () -> askers(1), d -> inRow(d.ask(0, 0, 1), d.state(0, 0)), 33);
         });
         holds(6, "Undoable.", () -> {
             undoable("a leader", () -> askers(1), d -> d.ask(0, 0, 5));
@@ -262,8 +265,9 @@ final class BoundaryOfDecisions extends Bounds {
         holds(6, "Throws `IllegalArgumentException` if both sites are the same", () -> {
             for (int site = 0; site < 6; site++) {
                 int same = site;
-                refused("all in doubt, ask itself " + site, ARGUMENT, () -> Worlds.inDoubt(1), d -> d.ask(0, same, same));
-                refused("a rich world, ask itself " + site, ARGUMENT, RICH, d -> d.ask(1, same, same));
+                World inDoubt = () -> Worlds.inDoubt(1);
+                refused("in doubt, " + site + " asks itself", ARGUMENT, inDoubt, d -> d.ask(0, same, same));
+                refused("in a rich world, " + site + " asks itself", ARGUMENT, RICH, d -> d.ask(1, same, same));
             }
         });
         holds(6, "Throws `IllegalStateException` if the site is no member", () -> {
@@ -309,7 +313,7 @@ final class BoundaryOfDecisions extends Bounds {
             dueLog("the member", d, 0, 1, 3);
             DealDoubts e = Worlds.deal(5, 33, 1);
             due("a leader that is a working member", e.ask(0, 0, 5), 3);
-            due("it decides, and works on", 10 * e.decision(0) + e.state(0, 5), 30);
+            due("it decides, and works on", inRow(e.decision(0), e.state(0, 5)), 30);
         });
     }
 
@@ -318,7 +322,7 @@ final class BoundaryOfDecisions extends Bounds {
             answers("all others are silent", () -> Worlds.silent(askers(1), 2, 3, 4, 5), d -> d.ask(0, 0, 1), 3);
             answers("the leader asks", () -> Worlds.deal(5, 33, 32), d -> d.ask(0, 5, 0), 3);
         });
-        holds(6, "Otherwise, if this site is a member and has ended the deal, the asking member gets into the same state.", () -> {
+        holds(6, "if this site is a member and has ended the deal, the asking member gets into the same state", () -> {
             DealDoubts d = toDoIt();
             d.tell(0, 4);
             due("done", d.ask(0, 0, 4), 2);

@@ -1,10 +1,7 @@
 /** Promises 24 to 26: reason, helper, ticksToEnd. */
 final class BoundaryOfForecasts extends Bounds {
     private static final String NO_CHANGE = "---- forecasts; they change nothing.";
-    private static final String REASON = "Returns 0 if the member would be in doubt then; otherwise the first reason that "
-        + "applies why it would not: ";
-    private static final String LEAST_HELPER = "Returns the least number of another site that is up, such that ask() of "
-        + "it would change the state of the member; ";
+    private static final String LEAST_HELPER = "Returns the least number of another site that is up";
 
     private BoundaryOfForecasts() {
     }
@@ -26,7 +23,7 @@ final class BoundaryOfForecasts extends Bounds {
 
     private static void reasonCalls() {
         dealAndSite(24, "reason", Worlds::working, DealDoubts::reason, 0);
-        holds(24, REASON, () -> {
+        holds(24, "Returns 0 if the member would be in doubt then", () -> {
             answers("the first deal", () -> Worlds.working(8), d -> d.reason(0, 0), 0);
             answers("the last deal", () -> Worlds.working(8), d -> d.reason(7, 5), 0);
             answers("after the decision", () -> Worlds.decided(8), d -> d.reason(7, 5), 0);
@@ -78,11 +75,12 @@ final class BoundaryOfForecasts extends Bounds {
             answers("before 3, in doubt", BoundaryOfForecasts::holdingAndSilent, d -> d.reason(2, 0), 2);
             answers("before 3 and 4, dropped", BoundaryOfForecasts::holdingAndSilent, d -> d.reason(3, 0), 2);
             answers("before 4, working", BoundaryOfForecasts::holdingAndSilent, d -> d.reason(1, 0), 2);
-            answers("it is back", () -> Worlds.silent(Worlds.deal(5, 3, 0), 0), d -> 0 * d.comeBack(0) + d.reason(0, 0), 3);
+            answers("it is back", () -> Worlds.silent(Worlds.deal(5, 3, 0), 0),
+                d -> last(d.comeBack(0), d.reason(0, 0)), 3);
         });
         holds(24, "3 it is not in the state 0", () -> {
             answers("in doubt", () -> Worlds.deal(5, 3, 3), d -> d.reason(0, 0), 3);
-            answers("done", () -> Worlds.deal(5, 3, 3), d -> 0 * (d.decide(0) + d.tell(0, 0)) + d.reason(0, 0), 3);
+            answers("done", () -> Worlds.deal(5, 3, 3), d -> last(d.decide(0), d.tell(0, 0), d.reason(0, 0)), 3);
             answers("dropped", () -> Worlds.dropped(1), d -> d.reason(0, 0), 3);
             answers("before 4, in doubt", BoundaryOfForecasts::holding, d -> d.reason(2, 0), 3);
             answers("before 4, dropped", BoundaryOfForecasts::holding, d -> d.reason(3, 0), 3);
@@ -93,22 +91,24 @@ final class BoundaryOfForecasts extends Bounds {
             answers("another site", BoundaryOfForecasts::holding, d -> d.reason(1, 1), 0);
             answers("the next item", BoundaryOfForecasts::holding, d -> d.reason(d.begin(5, 3, 5), 0), 0);
             answers("the item before", BoundaryOfForecasts::holding, d -> d.reason(d.begin(5, 3, 3), 0), 0);
-            answers("it holds it no more", BoundaryOfForecasts::holding, d -> 0 * d.ask(2, 0, 5) + d.reason(1, 0), 0);
+            answers("it holds it no more", BoundaryOfForecasts::holding, d -> last(d.ask(2, 0, 5), d.reason(1, 0)), 0);
         });
     }
 
     private static void reasonIsTrue() {
         holds(24, "Predicts how a vote with yes would end.", () -> {
-            for (World world : new World[] {RICH, FULL, BoundaryOfForecasts::holding, BoundaryOfForecasts::holdingAndSilent}) {
+            World silent = BoundaryOfForecasts::holdingAndSilent;
+            for (World world : new World[] {RICH, FULL, BoundaryOfForecasts::holding, silent}) {
                 int deals = world.make().deals();
                 for (int place = 0; place < 6 * deals; place++) {
                     int deal = place / 6;
                     int site = place % 6;
                     int reason = world.make().reason(deal, site);
+                    Call vote = d -> d.vote(deal, site, true);
                     if (reason == 0 || reason == 4) {
-                        answers("a vote with the reason " + reason, world, d -> d.vote(deal, site, true), reason == 0 ? 1 : 3);
+                        answers("a vote with the reason " + reason, world, vote, reason == 0 ? 1 : 3);
                     } else {
-                        dueThrown("a vote with the reason " + reason, STATE, world, d -> d.vote(deal, site, true));
+                        dueThrown("a vote with the reason " + reason, STATE, world, vote);
                     }
                 }
             }
@@ -147,11 +147,13 @@ final class BoundaryOfForecasts extends Bounds {
         });
         holds(25, "Finds the site whose answer would end the doubt of a member.", () -> {
             answers("a working member", () -> Worlds.deal(5, 7, 1), d -> d.helper(0, 0), 1);
-            answers("one that has dropped it", () -> Worlds.deal(5, 7, 5), d -> 0 * d.vote(0, 1, false) + d.helper(0, 0), 1);
+            answers("one that has dropped it", () -> Worlds.deal(5, 7, 5),
+                d -> last(d.vote(0, 1, false), d.helper(0, 0)), 1);
             answers("not one in doubt", () -> Worlds.deal(5, 7, 3), d -> d.helper(0, 0), 2);
             answers("one that has done it", () -> Worlds.deal(5, 7, 7),
-                d -> 0 * (d.decide(0) + d.tell(0, 2)) + d.helper(0, 0), 2);
-            answers("the leader, which has decided", () -> Worlds.deal(5, 7, 7), d -> 0 * d.decide(0) + d.helper(0, 0), 5);
+                d -> last(d.decide(0), d.tell(0, 2), d.helper(0, 0)), 2);
+            answers("the leader, which has decided", () -> Worlds.deal(5, 7, 7),
+                d -> last(d.decide(0), d.helper(0, 0)), 5);
             answers("the leader, which has not", () -> Worlds.deal(5, 7, 7), d -> d.helper(0, 0), 5);
             answers("a leader that is in doubt", () -> Worlds.deal(1, 7, 7), d -> d.helper(0, 0), 1);
         });
@@ -173,7 +175,7 @@ final class BoundaryOfForecasts extends Bounds {
         });
         holds(25, "silent, or not in doubt", () -> {
             answers("silent and in doubt", RICH, d -> d.helper(2, 4), -1);
-            answers("it is back", RICH, d -> 0 * d.comeBack(4) + d.helper(2, 4), 2);
+            answers("it is back", RICH, d -> last(d.comeBack(4), d.helper(2, 4)), 2);
             answers("working", RICH, d -> d.helper(0, 2), -1);
             answers("done", RICH, d -> d.helper(2, 3), -1);
             answers("dropped", RICH, d -> d.helper(1, 2), -1);
@@ -223,10 +225,11 @@ final class BoundaryOfForecasts extends Bounds {
         holds(26, "0 if it has ended it now", () -> {
             answers("done", RICH, d -> d.ticksToEnd(2, 3), 0);
             answers("dropped", RICH, d -> d.ticksToEnd(1, 2), 0);
-            answers("done, and silent", RICH, d -> 0 * d.fallSilent(3) + d.ticksToEnd(2, 3), 0);
-            answers("dropped by asking", () -> Worlds.deal(5, 3, 1), d -> 0 * d.ask(0, 0, 1) + d.ticksToEnd(0, 0), 0);
-            answers("dropped because it was asked", () -> Worlds.deal(5, 3, 1), d -> 0 * d.ask(0, 0, 1) + d.ticksToEnd(0, 1), 0);
-            answers("not yet", () -> Worlds.deal(5, 3, 1), d -> d.ticksToEnd(0, 0), 3);
+            answers("done, and silent", RICH, d -> last(d.fallSilent(3), d.ticksToEnd(2, 3)), 0);
+            World world = () -> Worlds.deal(5, 3, 1);
+            answers("dropped by asking", world, d -> last(d.ask(0, 0, 1), d.ticksToEnd(0, 0)), 0);
+            answers("dropped because it was asked", world, d -> last(d.ask(0, 0, 1), d.ticksToEnd(0, 1)), 0);
+            answers("not yet", world, d -> d.ticksToEnd(0, 0), 3);
         });
     }
 
@@ -251,10 +254,10 @@ final class BoundaryOfForecasts extends Bounds {
             }
             for (int passed = 1; passed < 20; passed++) {
                 int ticks = passed;
-                answers("after " + passed + " of 20 ticks", () -> leaderInDoubt(20), d -> d.pass(ticks) + d.ticksToEnd(0, 1),
-                    20 - passed);
-                answers("after " + passed + " of 40 ticks", () -> leaderInDoubt(20), d -> d.pass(ticks) + d.ticksToEnd(0, 0),
-                    40 - passed);
+                answers("after " + passed + " of 20 ticks", () -> leaderInDoubt(20),
+                    d -> last(d.pass(ticks), d.ticksToEnd(0, 1)), 20 - passed);
+                answers("after " + passed + " of 40 ticks", () -> leaderInDoubt(20),
+                    d -> last(d.pass(ticks), d.ticksToEnd(0, 0)), 40 - passed);
             }
         });
         holds(26, "by asking or because it is asked, if nothing else happens", () -> {
@@ -272,7 +275,7 @@ final class BoundaryOfForecasts extends Bounds {
     private static void ticksNever() {
         holds(26, "NONE if it has not after 40 ticks", () -> {
             answers("40 ticks", () -> leaderInDoubt(20), d -> d.ticksToEnd(0, 0), 40);
-            answers("40 ticks are true", () -> leaderInDoubt(20), d -> d.pass(20) + 10 * d.pass(19) + 100 * d.pass(1), 101);
+            answers("40 ticks are true", () -> leaderInDoubt(20), d -> inRow(d.pass(20), d.pass(19), d.pass(1)), 101);
             answers("stuck", () -> Worlds.silent(Worlds.deal(5, 3, 3), 5), d -> d.ticksToEnd(0, 0), -1);
             answers("the leader alone is up", () -> Worlds.silent(leaderInDoubt(1), 1), d -> d.ticksToEnd(0, 0), -1);
             answers("silent, and in doubt", RICH, d -> d.ticksToEnd(2, 4), -1);

@@ -26,10 +26,10 @@ final class BoundaryOfQueries extends Bounds {
             for (int deals = 0; deals <= 8; deals++) {
                 int there = deals;
                 answers("deals() of " + deals, () -> Worlds.working(there), DealDoubts::deals, deals);
-                answers("deals() of " + deals + " that have ended", () -> Worlds.dropped(there), DealDoubts::deals, deals);
+                answers("deals() of " + deals + " ended", () -> Worlds.dropped(there), DealDoubts::deals, deals);
             }
             answers("deals() after a ninth begin was refused", FULL, DealDoubts::deals, 8);
-            answers("deals() after undo", () -> Worlds.working(8), d -> 0 * d.undo() + d.deals(), 7);
+            answers("deals() after undo", () -> Worlds.working(8), d -> last(d.undo(), d.deals()), 7);
         });
     }
 
@@ -75,7 +75,7 @@ final class BoundaryOfQueries extends Bounds {
             answers("to drop it", RICH, d -> d.decision(3), 3);
             answers("none, though all are in doubt", () -> Worlds.inDoubt(8), d -> d.decision(7), 0);
             answers("none, though all have dropped it", () -> Worlds.dropped(8), d -> d.decision(7), 0);
-            answers("to do it, though all have done it", FULL, d -> 0 * d.tell(7, 4) + d.decision(7), 2);
+            answers("to do it, though all have done it", FULL, d -> last(d.tell(7, 4), d.decision(7)), 2);
         });
     }
 
@@ -84,9 +84,11 @@ final class BoundaryOfQueries extends Bounds {
         holds(15, "Returns the number of the site.", () -> {
             for (int site = 0; site < 6; site++) {
                 int leader = site;
+                int others = Worlds.ALL & ~(1 << leader);
                 answers("a member", () -> Worlds.deal(leader, Worlds.ALL, 0), d -> d.leader(0), leader);
-                answers("no member", () -> Worlds.deal(leader, Worlds.ALL & ~(1 << leader), 0), d -> d.leader(0), leader);
-                answers("silent", () -> Worlds.silent(Worlds.deal(leader, Worlds.ALL, 0), leader), d -> d.leader(0), leader);
+                answers("no member", () -> Worlds.deal(leader, others, 0), d -> d.leader(0), leader);
+                answers("silent", () -> Worlds.silent(Worlds.deal(leader, others, 0), leader), d -> d.leader(0),
+                    leader);
             }
         });
     }
@@ -112,7 +114,7 @@ final class BoundaryOfQueries extends Bounds {
             answers("done", RICH, d -> d.patience(2, 3), -1);
             answers("dropped", RICH, d -> d.patience(1, 2), -1);
             answers("in doubt", RICH, d -> d.patience(0, 0), 3);
-            answers("dropped by asking", RICH, d -> 0 * d.ask(0, 0, 5) + d.patience(0, 0), -1);
+            answers("dropped by asking", RICH, d -> last(d.ask(0, 0, 5), d.patience(0, 0)), -1);
         });
     }
 
@@ -134,10 +136,10 @@ final class BoundaryOfQueries extends Bounds {
                 int last = site;
                 World world = () -> allButOne(last);
                 answers("only " + site + " is working", world, DealDoubts::open, 1);
-                answers("only " + site + " is in doubt", world, d -> 0 * d.vote(0, last, true) + d.open(), 1);
+                answers("only " + site + " is in doubt", world, d -> last(d.vote(0, last, true), d.open()), 1);
                 answers("only " + site + " is in doubt, and silent", world,
-                    d -> 0 * (d.vote(0, last, true) + d.fallSilent(last)) + d.open(), 1);
-                answers("all have dropped it", world, d -> 0 * d.vote(0, last, false) + d.open(), 0);
+                    d -> last(d.vote(0, last, true), d.fallSilent(last), d.open()), 1);
+                answers("all have dropped it", world, d -> last(d.vote(0, last, false), d.open()), 0);
             }
         });
         holds(17, "A member in the state 2 or 3 has ended the deal.", () -> {
@@ -188,9 +190,9 @@ final class BoundaryOfQueries extends Bounds {
         holds(18, "some member that is up is in doubt", () -> {
             World world = () -> Worlds.silent(Worlds.deal(5, 3, 3), 5);
             answers("two of them", world, DealDoubts::stuck, 1);
-            answers("one of them, 1", world, d -> 0 * d.fallSilent(0) + d.stuck(), 1);
-            answers("one of them, 0", world, d -> 0 * d.fallSilent(1) + d.stuck(), 1);
-            answers("none of them", world, d -> 0 * (d.fallSilent(0) + d.fallSilent(1)) + d.stuck(), 0);
+            answers("one of them, 1", world, d -> last(d.fallSilent(0), d.stuck()), 1);
+            answers("one of them, 0", world, d -> last(d.fallSilent(1), d.stuck()), 1);
+            answers("none of them", world, d -> last(d.fallSilent(0), d.fallSilent(1), d.stuck()), 0);
             answers("all are working", () -> Worlds.silent(Worlds.deal(5, 3, 0), 5), DealDoubts::stuck, 0);
             answers("all have ended it", () -> Worlds.silent(Worlds.dropped(1), 0), DealDoubts::stuck, 0);
         });
@@ -219,7 +221,7 @@ final class BoundaryOfQueries extends Bounds {
                 due("after the end", d.logLength(0), 2 * deal + 2);
             }
             answers("a full log", FULL, e -> e.logLength(5), 24);
-            answers("a full log after undo", FULL, e -> 0 * e.undo() + e.logLength(5), 23);
+            answers("a full log after undo", FULL, e -> last(e.undo(), e.logLength(5)), 23);
         });
     }
 
@@ -241,7 +243,7 @@ final class BoundaryOfQueries extends Bounds {
             answers("the last entry of a full log", FULL, d -> d.log(5, 23), 72);
             answers("behind it", FULL, d -> d.log(5, 24), -1);
             answers("far behind it", FULL, d -> d.log(5, MOST), -1);
-            answers("an entry that was taken back", FULL, d -> 0 * d.undo() + d.log(5, 23), -1);
+            answers("an entry that was taken back", FULL, d -> last(d.undo(), d.log(5, 23)), -1);
         });
         holds(20, "Throws `IndexOutOfBoundsException` if there is no such site", () -> {
             noSuchSites("log", RICH, (d, site) -> d.log(site, 0));
@@ -321,18 +323,23 @@ final class BoundaryOfQueries extends Bounds {
     }
 
     private static void asked() {
-        holds(22, "Returns the number of questions that were asked so far: calls of ask(), and each question in a tick.", () -> {
+        World world = () -> Worlds.deal(5, 3, 3);
+        holds(22, "Returns the number of questions that were asked so far: calls of ask()", () -> {
             answers("no question", FULL, DealDoubts::asked, 0);
-            answers("a question that changes nothing", () -> Worlds.deal(5, 3, 3), d -> d.ask(0, 0, 1) + d.asked(), 2);
-            answers("a question to no member", () -> Worlds.deal(5, 3, 3), d -> d.ask(0, 0, 4) + d.asked(), 2);
-            answers("a question that ends it", () -> Worlds.deal(5, 3, 3), d -> d.ask(0, 0, 5) + d.asked(), 4);
-            answers("no question in two ticks", () -> Worlds.deal(5, 3, 1), d -> d.pass(2) + d.asked(), 0);
-            answers("one question in the third tick", () -> Worlds.deal(5, 3, 1), d -> d.pass(3) + 10 * d.asked(), 12);
-            answers("five questions of one member", () -> Worlds.deal(5, 33, 33), d -> d.pass(2) + 10 * d.asked(), 0);
-            // Member 0 asks 1 to 5, and 5 is the leader; member 1 asks 0.
-            answers("six questions in the third tick", () -> Worlds.deal(5, 3, 3), d -> d.pass(3) + 10 * d.asked(), 62);
+            answers("a question that changes nothing", world, d -> inRow(d.ask(0, 0, 1), d.asked()), 11);
+            answers("a question to no member", world, d -> inRow(d.ask(0, 0, 4), d.asked()), 11);
+            answers("a question that ends it", world, d -> inRow(d.ask(0, 0, 5), d.asked()), 31);
+            answers("two questions", world, d -> last(d.ask(0, 0, 1), d.ask(0, 0, 1), d.asked()), 2);
+            answers("undo takes it back", world, d -> last(d.ask(0, 0, 1), d.undo(), d.asked()), 0);
             refused("a question that is refused", STATE, RICH, d -> d.ask(0, 2, 1));
-            answers("undo takes it back", () -> Worlds.deal(5, 3, 3), d -> d.ask(0, 0, 1) + 0 * d.undo() + d.asked(), 1);
+        });
+        holds(22, "and each question in a tick", () -> {
+            answers("none in two ticks", world, d -> inRow(d.pass(2), d.asked()), 0);
+            // Member 0 asks 1 to 5, and 5 is the leader; member 1 asks 0.
+            answers("six in the third tick", world, d -> inRow(d.pass(3), d.asked()), 26);
+            answers("one in the third tick", () -> Worlds.deal(5, 3, 1), d -> inRow(d.pass(3), d.asked()), 21);
+            answers("eight in vain", () -> Worlds.silent(world.make(), 5), d -> inRow(d.pass(3), d.asked()), 8);
+            answers("eight in vain, twice", () -> Worlds.silent(world.make(), 5), d -> last(d.pass(6), d.asked()), 16);
         });
         holds(22, "\"a\", a deal, a site, and another site (with another digit): like ask()", () -> {
             DealDoubts d = Worlds.deal(5, 3, 3);
@@ -381,7 +388,7 @@ final class BoundaryOfQueries extends Bounds {
             dueShare("those that have ended it are members too", d, 2.0 / 5.0);
         });
         holds(23, "All numbers are integers, except for doubtShare().", () ->
-            due("doubtShare() * 48 is no whole number of thirds", Worlds.deal(5, 7, 1).doubtShare() == 1.0 / 3.0, true));
+            dueShare("one of three", Worlds.deal(5, 7, 1), 1.0 / 3.0));
     }
 
     /** Queries are not marked "Undoable": they save nothing. */

@@ -46,7 +46,7 @@ final class BoundaryOfSites extends Bounds {
                 int silent = site;
                 refused("fallSilent of silent " + site, STATE, BoundaryOfSites::allSilent, d -> d.fallSilent(silent));
                 answers("the only one that is up, " + site, BoundaryOfSites::allSilent,
-                    d -> 0 * d.comeBack(silent) + d.fallSilent(silent), 0);
+                    d -> last(d.comeBack(silent), d.fallSilent(silent)), 0);
             }
             refused("fallSilent in a rich world", STATE, RICH, d -> d.fallSilent(4));
         });
@@ -204,7 +204,7 @@ final class BoundaryOfSites extends Bounds {
                 answers("pass(" + ticks + ")", EMPTY, d -> d.pass(number), 0);
                 int left = ticks < 20 ? 20 - ticks : 20;
                 answers("patience after pass(" + ticks + ")", BoundaryOfSites::patient,
-                    d -> d.pass(number) + d.patience(0, 0), left);
+                    d -> last(d.pass(number), d.patience(0, 0)), left);
             }
             refused("pass(0)", ARGUMENT, EMPTY, d -> d.pass(0));
             refused("pass(21)", ARGUMENT, EMPTY, d -> d.pass(21));
@@ -230,7 +230,7 @@ final class BoundaryOfSites extends Bounds {
     }
 
     private static void passCounts() {
-        holds(9, "Returns the number of members that end a deal in them (by asking, or because they are asked).", () -> {
+        holds(9, "Returns the number of members that end a deal in them (by asking, or because they are asked)", () -> {
             answers("none, without deals", EMPTY, d -> d.pass(20), 0);
             answers("none, nobody in doubt", () -> Worlds.working(8), d -> d.pass(20), 0);
             answers("none, nobody has an answer", BoundaryOfSites::patient, d -> d.pass(20), 0);
@@ -312,8 +312,8 @@ final class BoundaryOfSites extends Bounds {
             }
         });
         holds(9, "The patience of the settings is 1 to 20, at first 3.", () -> {
-            answers("asked() after two ticks", () -> Worlds.deal(5, 3, 1), d -> d.pass(2) + d.asked(), 0);
-            answers("asked() after three ticks", () -> Worlds.deal(5, 3, 1), d -> 10 * d.pass(3) + d.asked(), 21);
+            answers("asked() after two ticks", () -> Worlds.deal(5, 3, 1), d -> last(d.pass(2), d.asked()), 0);
+            answers("asked() after three ticks", () -> Worlds.deal(5, 3, 1), d -> inRow(d.pass(3), d.asked()), 21);
         });
     }
 
@@ -409,7 +409,7 @@ final class BoundaryOfSites extends Bounds {
         });
         holds(10, "Undoable.", () -> {
             undoable("setPatience(20)", EMPTY, d -> d.setPatience(20));
-            answers("setPatience after undo", EMPTY, d -> d.setPatience(20) + d.undo() + 100 * d.setPatience(1), 303);
+            answers("setPatience after undo", EMPTY, d -> inRow(d.setPatience(20), d.undo(), d.setPatience(1)), 303);
         });
         holds(10, "A call that throws an exception changes nothing.", () -> {
             refused("setPatience(0)", ARGUMENT, FULL, d -> d.setPatience(0));
@@ -420,17 +420,16 @@ final class BoundaryOfSites extends Bounds {
     private static void setPatienceTerms() {
         holds(10, "The patience of the settings is 1 to 20, at first 3.", () -> {
             answers("the first setPatience", EMPTY, d -> d.setPatience(3), 3);
-            answers("setPatience(1)", EMPTY, d -> 0 * d.setPatience(1) + d.setPatience(20), 1);
-            answers("setPatience(20)", EMPTY, d -> 0 * d.setPatience(20) + d.setPatience(1), 20);
+            answers("setPatience(1)", EMPTY, d -> last(d.setPatience(1), d.setPatience(20)), 1);
+            answers("setPatience(20)", EMPTY, d -> last(d.setPatience(20), d.setPatience(1)), 20);
         });
         holds(10, "even if nothing changes", () -> undoable("setPatience(3) at first", EMPTY, d -> d.setPatience(3)));
-        holds(10, "The patience of a member for a deal becomes the patience of the settings when it gets into the state 1.",
-            () -> {
-                DealDoubts d = Worlds.deal(5, 3, 1);
-                d.setPatience(20);
-                due("it stays for one that is in doubt already", d.patience(0, 0), 3);
-                d.vote(0, 1, true);
-                due("it counts for the next vote", d.patience(0, 1), 20);
-            });
+        holds(10, "becomes the patience of the settings when it gets into the state 1", () -> {
+            DealDoubts d = Worlds.deal(5, 3, 1);
+            d.setPatience(20);
+            due("it stays for one that is in doubt already", d.patience(0, 0), 3);
+            d.vote(0, 1, true);
+            due("it counts for the next vote", d.patience(0, 1), 20);
+        });
     }
 }

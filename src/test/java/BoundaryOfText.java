@@ -68,8 +68,8 @@ final class BoundaryOfText extends Bounds {
             refused("the 61st character", STATE, FULL, d -> d.append(';'));
             refused("the 61st character", STATE, FULL, d -> d.append(33));
             refused("the 61st character", STATE, FULL, d -> d.append(126));
-            answers("after clearText()", FULL, d -> d.clearText() + d.append('x'), 61);
-            answers("after run()", FULL, d -> 0 * d.run() + d.append('x'), 1);
+            answers("after clearText()", FULL, d -> last(d.clearText(), d.append('x')), 1);
+            answers("after run()", FULL, d -> last(d.run(), d.append('x')), 1);
         });
     }
 
@@ -90,7 +90,7 @@ final class BoundaryOfText extends Bounds {
             refused("append of the 61st character", STATE, FULL, d -> d.append('0'));
         });
         holds(27, "Each method that is marked \"Undoable\" saves the state", () ->
-            answers("savedStates() after append", EMPTY, d -> 0 * d.append('x') + d.savedStates(), 0));
+            answers("savedStates() after append", EMPTY, d -> last(d.append('x'), d.savedStates()), 0));
     }
 
     private static void clearText() {
@@ -99,16 +99,16 @@ final class BoundaryOfText extends Bounds {
                 int there = length;
                 answers("clearText() of " + length, () -> typed("!".repeat(there)), DealDoubts::clearText, length);
             }
-            answers("clearText() twice", FULL, d -> d.clearText() + d.clearText(), 60);
+            answers("clearText() twice", FULL, d -> last(d.clearText(), d.clearText()), 0);
         });
         holds(28, "Empties the buffer.", () -> {
-            answers("firstError()", FULL, d -> 0 * d.clearText() + d.firstError(), 0);
-            dueThrown("run()", ARGUMENT, FULL, d -> 0 * d.clearText() + d.run());
-            answers("the next text", () -> typed("y00;"), d -> 0 * d.clearText() + runOf(d, "x0"), 1);
+            answers("firstError()", FULL, d -> last(d.clearText(), d.firstError()), 0);
+            dueThrown("run()", ARGUMENT, FULL, d -> last(d.clearText(), d.run()));
+            answers("the next text", () -> typed("y00;"), d -> last(d.clearText(), runOf(d, "x0")), 1);
             changesNothing("clearText() of an empty buffer", EMPTY, DealDoubts::clearText);
         });
         holds(28, "Each method that is marked \"Undoable\" saves the state", () ->
-            answers("savedStates() after clearText()", () -> typed("x0"), d -> 0 * d.clearText() + d.savedStates(), 0));
+            answers("savedStates()", () -> typed("x0"), d -> last(d.clearText(), d.savedStates()), 0));
     }
 
     /** Which characters may follow, of all that can be appended. */
@@ -135,7 +135,7 @@ final class BoundaryOfText extends Bounds {
             dueError("x0;".repeat(19) + "x!0", 58);
             dueError("!" + "x0;".repeat(19) + "x0", 0);
         });
-        holds(29, "the length of the buffer if there is none (also if the buffer is not a complete action text)", () -> {
+        holds(29, "the length of the buffer if there is none (also if the buffer is not a complete", () -> {
             String text = Worlds.LONG_TEXT;
             for (int length = 0; length <= 60; length++) {
                 dueError(text.substring(0, length), length);
@@ -164,9 +164,9 @@ final class BoundaryOfText extends Bounds {
                 int deal = place / 6;
                 int site = place % 6;
                 answers("y" + deal + site, () -> Worlds.working(8),
-                    d -> 10 * runOf(d, "y" + deal + site) + d.state(deal, site), 11);
+                    d -> inRow(runOf(d, "y" + deal + site), d.state(deal, site)), 11);
                 answers("n" + deal + site, () -> Worlds.working(8),
-                    d -> 10 * runOf(d, "n" + deal + site) + d.state(deal, site), 13);
+                    d -> inRow(runOf(d, "n" + deal + site), d.state(deal, site)), 13);
             }
         });
         holds(29, "\"d\" and a deal", () -> {
@@ -177,7 +177,7 @@ final class BoundaryOfText extends Bounds {
         holds(30, "\"d\" and a deal: like decide()", () -> {
             for (int place = 0; place < 8; place++) {
                 int deal = place;
-                answers("d" + deal, () -> Worlds.working(8), d -> 10 * runOf(d, "d" + deal) + d.decision(deal), 13);
+                answers("d" + deal, () -> Worlds.working(8), d -> inRow(runOf(d, "d" + deal), d.decision(deal)), 13);
             }
         });
         holds(29, "\"g\", a deal, and a site", () -> {
@@ -192,7 +192,7 @@ final class BoundaryOfText extends Bounds {
                 int deal = place / 6;
                 int site = place % 6;
                 answers("g" + deal + site, () -> Worlds.decided(8),
-                    d -> 10 * runOf(d, "g" + deal + site) + d.state(deal, site), 13);
+                    d -> inRow(runOf(d, "g" + deal + site), d.state(deal, site)), 13);
             }
         });
     }
@@ -216,11 +216,12 @@ final class BoundaryOfText extends Bounds {
                 int other = place % 6;
                 if (site != other) {
                     answers("a7" + site + other, () -> Worlds.working(8),
-                        d -> 1000 * d.vote(7, site, true) + 100 * runOf(d, "a7" + site + other) + 10 * d.state(7, site)
-                            + d.asked(), 1131);
+                        d -> inRow(d.vote(7, site, true), runOf(d, "a7" + site + other), d.state(7, site), d.asked()),
+                        1131);
                 }
             }
-            answers("a005", () -> Worlds.deal(5, 3, 1), d -> 100 * runOf(d, "a005") + 10 * d.state(0, 0) + d.asked(), 131);
+            answers("a005", () -> Worlds.deal(5, 3, 1),
+                d -> inRow(runOf(d, "a005"), d.state(0, 0), d.asked()), 131);
         });
         holds(29, "\"x\" and a site: like fallSilent(); \"u\" and a site: like comeBack()", () -> {
             for (String kind : new String[] {"x", "u"}) {
@@ -267,16 +268,16 @@ final class BoundaryOfText extends Bounds {
         });
         holds(30, "\"t\" and a number from 1 to 20, without leading zeros: like pass()", () -> {
             for (int ticks = 1; ticks <= 20; ticks++) {
-                int number = ticks;
-                answers("t" + ticks, () -> {
-                    DealDoubts d = new DealDoubts();
-                    d.setPatience(20);
-                    d.begin(5, 3, 0);
-                    d.vote(0, 0, true);
-                    d.vote(0, 1, true);
-                    d.fallSilent(5);
-                    return d;
-                }, d -> 1000 * runOf(d, "t" + number) + 100 * d.asked() + d.patience(0, 0), ticks < 20 ? 1020 - ticks : 1820);
+                // Two members ask four sites each in the tick 20, and not before.
+                DealDoubts d = new DealDoubts();
+                d.setPatience(20);
+                d.begin(5, 3, 0);
+                d.vote(0, 0, true);
+                d.vote(0, 1, true);
+                d.fallSilent(5);
+                due("t" + ticks, runOf(d, "t" + ticks), 1);
+                due("patience after t" + ticks, d.patience(0, 0), ticks < 20 ? 20 - ticks : 20);
+                due("asked() after t" + ticks, d.asked(), ticks < 20 ? 0 : 8);
             }
             for (String text : new String[] {"t", "t0", "t01", "t21", "t100", "t1;t"}) {
                 refused("run() of " + text, ARGUMENT, () -> typed(text), DealDoubts::run);
@@ -298,18 +299,17 @@ final class BoundaryOfText extends Bounds {
                 refused("run() of " + text, ARGUMENT, () -> typed(text), DealDoubts::run);
             }
         });
-        holds(29, "A character of the buffer is an error if no action text, however long, begins with the characters before it",
-            () -> {
-                String full = "x0;".repeat(19);
-                dueError(full + "x0;", 60);
-                dueError(full + "x0y", 59);
-                dueError(full + "x5", 59);
-                dueError(full + "a70", 60);
-                dueError(full + "t10", 60);
-                dueError(full + "t1", 59);
-                dueError(full + "y75", 60);
-                dueError(full + "d7;", 60);
-            });
+        holds(29, "A character of the buffer is an error if no action text, however long, begins with", () -> {
+            String almostFull = "x0;".repeat(19);
+            dueError(almostFull + "x0;", 60);
+            dueError(almostFull + "x0y", 59);
+            dueError(almostFull + "x5", 59);
+            dueError(almostFull + "a70", 60);
+            dueError(almostFull + "t10", 60);
+            dueError(almostFull + "t1", 59);
+            dueError(almostFull + "y75", 60);
+            dueError(almostFull + "d7;", 60);
+        });
     }
 
     private static void runCounts() {
@@ -324,10 +324,10 @@ final class BoundaryOfText extends Bounds {
             answers("a question that changes nothing", () -> Worlds.deal(5, 3, 3), d -> runOf(d, "a001;a004;a010"), 3);
         });
         holds(30, "and empties the buffer", () -> {
-            answers("all are done", FULL, d -> 0 * d.run() + d.clearText(), 0);
-            answers("some are done", EMPTY, d -> 0 * runOf(d, "x0;x0;u0") + d.clearText(), 0);
-            answers("none is done", EMPTY, d -> runOf(d, "u0") + d.clearText(), 0);
-            dueThrown("run() again", ARGUMENT, FULL, d -> 0 * d.run() + d.run());
+            answers("all are done", FULL, d -> last(d.run(), d.clearText()), 0);
+            answers("some are done", EMPTY, d -> last(runOf(d, "x0;x0;u0"), d.clearText()), 0);
+            answers("none is done", EMPTY, d -> last(runOf(d, "u0"), d.clearText()), 0);
+            dueThrown("run() again", ARGUMENT, FULL, d -> last(d.run(), d.run()));
         });
     }
 
@@ -351,7 +351,7 @@ final class BoundaryOfText extends Bounds {
         });
         holds(30, "Does the actions in the buffer, one after the other", () -> {
             DealDoubts d = Worlds.working(1);
-            due("run()", runOf(d, "y00;n01;d0;g00;y02;a02" + "3;x5"), 7);
+            due("run()", runOf(d, "y00;n01;d0;g00;y02;a023;x5"), 7);
             dueLog("yes, and told", d, 0, 1, 3);
             dueLog("no", d, 1, 3);
             dueLog("yes, and asked", d, 2, 1, 3);
@@ -370,9 +370,9 @@ final class BoundaryOfText extends Bounds {
         };
         answers(told + text, bare, d -> runOf(d, text), 0);
         answers(told + "t1;" + text, bare, d -> runOf(d, "t1;" + text), 1);
-        answers(told + text + ";x3", bare, d -> 10 * runOf(d, text + ";x3") + (d.isUp(3) ? 1 : 0), 1);
+        answers(told + text + ";x3", bare, d -> inRow(runOf(d, text + ";x3"), d.isUp(3) ? 1 : 0), 1);
         long due = bare.make().digest();
-        answers(told + text + ", digest()", bare, d -> 0 * runOf(d, text + ";x3") + d.digest(), due);
+        answers(told + text + ", digest()", bare, d -> last(runOf(d, text + ";x3"), d.digest()), due);
     }
 
     private static void runIsOneCall() {
@@ -392,13 +392,13 @@ final class BoundaryOfText extends Bounds {
             due("deals()", d.deals(), 4);
         });
         holds(30, "At most 6 states are saved", () -> {
-            answers("savedStates()", FULL, d -> 0 * d.run() + d.savedStates(), 6);
-            answers("savedStates(), no action is done", FULL, d -> 0 * d.clearText() + runOf(d, "u0") + d.savedStates(), 6);
+            answers("savedStates()", FULL, d -> last(d.run(), d.savedStates()), 6);
+            answers("no action is done", FULL, d -> last(d.clearText(), runOf(d, "u0"), d.savedStates()), 6);
         });
     }
 
     private static void runRefusals() {
-        holds(30, "Throws `IllegalArgumentException` if the buffer is not a complete action text (the buffer stays)", () -> {
+        holds(30, "if the buffer is not a complete action text (the buffer stays)", () -> {
             refused("run() of an empty buffer", ARGUMENT, EMPTY, DealDoubts::run);
             refused("run() of an unfinished text", ARGUMENT, RICH, DealDoubts::run);
             String[] texts = {"y", "y0", "d", "g", "g0", "a", "a0", "a00", "x", "u", "t", "x0;", "x0;y", "x0;t", "t21",

@@ -4,9 +4,9 @@ import java.util.List;
 
 /** Promises 31 to 33: undo, savedStates, digest. */
 final class BoundaryOfUndo extends Bounds {
-    private static final String ITEMS = "for each site 1 if it is up, otherwise 0, the items that it holds, the length of "
-        + "its log, and the entries of its log";
-    private static final String PLACES = "for each deal its leader, its decision, and for each site its state, its "
+    private static final String SITES = "for each site 1 if it is up, otherwise 0, the items that it holds, the length "
+        + "of its log, and the entries of its log";
+    private static final String DEALS = "for each deal its leader, its decision, and for each site its state, its "
         + "patience, and what helper() returns";
 
     private BoundaryOfUndo() {
@@ -79,7 +79,7 @@ final class BoundaryOfUndo extends Bounds {
             refused("a seventh undo() in a full world", STATE, () -> undone(Worlds.full(), 6), DealDoubts::undo);
             refused("a seventh undo() in a rich world", STATE, () -> undone(Worlds.rich(), 6), DealDoubts::undo);
             answers("the sixth undo()", () -> undone(Worlds.full(), 5), DealDoubts::undo, 0);
-            answers("undo() after a call", () -> undone(passed(20), 6), d -> d.pass(1) + d.undo(), 0);
+            answers("undo() after a call", () -> undone(passed(20), 6), d -> last(d.pass(1), d.undo()), 0);
         });
         holds(31, "A call that throws an exception changes nothing.", () ->
             refused("a seventh undo()", STATE, () -> undone(Worlds.full(), 6), DealDoubts::undo));
@@ -118,7 +118,7 @@ final class BoundaryOfUndo extends Bounds {
             due("a full buffer stays", e.clearText(), 60);
         });
         holds(31, "Each method that is marked \"Undoable\" saves the state", () -> {
-            answers("undo() saves nothing", () -> passed(6), d -> d.undo() + d.undo() + d.savedStates(), 13);
+            answers("undo() saves nothing", () -> passed(6), d -> last(d.undo(), d.undo(), d.savedStates()), 4);
             answers("undo() of the call before undo()", EMPTY, d -> {
                 d.fallSilent(0);
                 d.fallSilent(1);
@@ -134,30 +134,28 @@ final class BoundaryOfUndo extends Bounds {
     private static void savedStates() {
         holds(32, "Returns the number of saved states, 0 to 6.", () -> {
             for (int calls = 0; calls <= 20; calls++) {
-                int there = calls;
-                answers("savedStates() after " + calls, () -> passed(there), DealDoubts::savedStates, Math.min(calls, 6));
+                due("savedStates() after " + calls, passed(calls).savedStates(), Math.min(calls, 6));
             }
             for (int times = 0; times <= 6; times++) {
-                int there = times;
-                answers("savedStates() after undo", () -> undone(passed(20), there), DealDoubts::savedStates, 6 - times);
+                due("savedStates() after undo", undone(passed(20), times).savedStates(), 6 - times);
             }
             changesNothing("savedStates()", EMPTY, DealDoubts::savedStates);
             changesNothing("savedStates()", FULL, DealDoubts::savedStates);
         });
         holds(32, "At most 6 states are saved", () -> {
             answers("savedStates() of a full world", FULL, DealDoubts::savedStates, 6);
-            answers("after one more call", FULL, d -> 0 * d.tell(0, 4) + d.savedStates(), 6);
-            answers("after undo and two calls", FULL, d -> 0 * (d.undo() + d.pass(1) + d.pass(1)) + d.savedStates(), 6);
+            answers("after one more call", FULL, d -> last(d.tell(0, 4), d.savedStates()), 6);
+            answers("after undo and two calls", FULL, d -> last(d.undo(), d.pass(1), d.pass(1), d.savedStates()), 6);
         });
     }
 
     private static void whatIsSaved() {
         holds(32, "if it does not throw an exception, even if nothing changes", () -> {
-            answers("pass(1) without deals", EMPTY, d -> d.pass(1) + d.savedStates(), 1);
-            answers("setPatience(3) at first", EMPTY, d -> 0 * d.setPatience(3) + d.savedStates(), 1);
+            answers("pass(1) without deals", EMPTY, d -> last(d.pass(1), d.savedStates()), 1);
+            answers("setPatience(3) at first", EMPTY, d -> last(d.setPatience(3), d.savedStates()), 1);
             answers("tell() of one that has ended it", () -> Worlds.deal(5, 3, 0),
-                d -> 0 * (d.vote(0, 0, false) + d.decide(0) + d.tell(0, 0)) + d.savedStates(), 4);
-            answers("ask() of one in doubt", () -> Worlds.deal(5, 3, 3), d -> 0 * d.ask(0, 0, 1) + d.savedStates(), 4);
+                d -> last(d.vote(0, 0, false), d.decide(0), d.tell(0, 0), d.savedStates()), 4);
+            answers("ask() of one in doubt", () -> Worlds.deal(5, 3, 3), d -> last(d.ask(0, 0, 1), d.savedStates()), 4);
             refused("pass(0)", ARGUMENT, EMPTY, d -> d.pass(0));
             refused("setPatience(0)", ARGUMENT, EMPTY, d -> d.setPatience(0));
             refused("comeBack(0)", STATE, EMPTY, d -> d.comeBack(0));
@@ -246,7 +244,7 @@ final class BoundaryOfUndo extends Bounds {
                 return d;
             });
         });
-        holds(33, ITEMS, () -> {
+        holds(33, SITES, () -> {
             dueDigest("with all items held", () -> Worlds.inDoubt(8));
             dueDigest("with a full log", FULL);
             for (int site = 0; site < 6; site++) {
@@ -254,7 +252,7 @@ final class BoundaryOfUndo extends Bounds {
                 dueDigest("with silent " + site, () -> Worlds.silent(new DealDoubts(), silent));
             }
         });
-        holds(33, PLACES, () -> {
+        holds(33, DEALS, () -> {
             for (int site = 0; site < 6; site++) {
                 int leader = site;
                 dueDigest("with the leader " + site, () -> Worlds.deal(leader, Worlds.ALL & ~(1 << leader), 0));
@@ -275,10 +273,10 @@ final class BoundaryOfUndo extends Bounds {
             changesNothing("digest()", RICH, DealDoubts::digest);
             changesNothing("digest()", FULL, DealDoubts::digest);
             long due = new DealDoubts().digest();
-            answers("with text", EMPTY, d -> 0 * d.append('x') + d.digest(), due);
-            answers("with a saved state", EMPTY, d -> d.pass(1) + d.digest(), due);
-            answers("with other settings", EMPTY, d -> 0 * d.setPatience(20) + d.digest(), due);
-            answers("with an item that nobody holds", EMPTY, d -> 0 * d.begin(5, 3, 9) + d.digest(),
+            answers("with text", EMPTY, d -> last(d.append('x'), d.digest()), due);
+            answers("with a saved state", EMPTY, d -> last(d.pass(1), d.digest()), due);
+            answers("with other settings", EMPTY, d -> last(d.setPatience(20), d.digest()), due);
+            answers("with an item that nobody holds", EMPTY, d -> last(d.begin(5, 3, 9), d.digest()),
                 Worlds.deal(5, 3, 0).digest());
         });
     }

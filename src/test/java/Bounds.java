@@ -70,6 +70,20 @@ abstract class Bounds {
         Checks.dueLog(what, d, site, want);
     }
 
+    /** The answer of the last one of some calls. */
+    static long last(long... answers) {
+        return answers[answers.length - 1];
+    }
+
+    /** The answers of some calls, as the digits of one number. */
+    static long inRow(long... answers) {
+        long number = 0;
+        for (long answer : answers) {
+            number = 10 * number + answer;
+        }
+        return number;
+    }
+
     /** What a call answers on a new object of this world. */
     static void answers(String told, World world, Call call, long want) {
         try {
@@ -121,8 +135,8 @@ abstract class Bounds {
         call.on(d);
         due(told + ": savedStates()", d.savedStates(), saved + 1);
         due(told + ": undo()", d.undo(), saved);
-        due(told + " leaves all as it was after undo", Sight.of(() -> undone(world, call)).equals(Sight.of(world::make)),
-            true);
+        boolean isSame = Sight.of(() -> undone(world, call)).equals(Sight.of(world::make));
+        due(told + " leaves all as it was after undo", isSame, true);
     }
 
     private static DealDoubts undone(World world, Call call) {

@@ -70,7 +70,8 @@ public final class DealsTest {
         Checks.refused("2: leader -1", d, Checks.INDEX, () -> d.begin(-1, 0, 10));
         Checks.refused("2: leader 6", d, Checks.INDEX, () -> d.begin(6, 3, 0));
         Checks.refused("2: leader far off", d, Checks.INDEX, () -> d.begin(Integer.MIN_VALUE, 3, 0));
-        for (int members : new int[] {0, -1, 64, 65, 67, 1, 2, 4, 8, 16, 32, Integer.MAX_VALUE, Integer.MIN_VALUE + 3}) {
+        int[] noMembers = {0, -1, 64, 65, 67, 1, 2, 4, 8, 16, 32, Integer.MAX_VALUE, Integer.MIN_VALUE + 3};
+        for (int members : noMembers) {
             Checks.refused("2: members " + members, d, Checks.ARGUMENT, () -> d.begin(0, members, 0));
         }
         Checks.refused("2: item -1", d, Checks.ARGUMENT, () -> d.begin(0, 3, -1));

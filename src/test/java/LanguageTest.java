@@ -70,8 +70,8 @@ public final class LanguageTest {
         void report() {
             Checks.due("classes", classes <= 12, true);
             for (Element start : calls.keySet()) {
-                Checks.due("calls below " + start + " go at most eight deep", depthOf(start, new HashSet<>()) <= DEEPEST,
-                    true);
+                boolean isFlat = depthOf(start, new HashSet<>()) <= DEEPEST;
+                Checks.due("calls below " + start + " go at most eight deep", isFlat, true);
             }
         }
 

@@ -66,20 +66,23 @@ final class Sentences {
         }
     }
 
-    /** Marks what the document says with these words, for this promise or for all calls. */
+    /** Marks what the document says with these words, for this promise or, if not there, for all calls. */
     static void name(int promise, String words) {
+        if (!mark(promise, words) && !mark(ALL_CALLS, words)) {
+            Checks.fail("the document does not say \"" + words + "\" for promise " + promise);
+        }
+    }
+
+    private static boolean mark(int promise, String words) {
         boolean isThere = false;
         for (int i = 0; i < ALL.size(); i++) {
             Sentence sentence = ALL.get(i);
-            boolean isPlace = sentence.promise() == promise || sentence.promise() == ALL_CALLS;
-            if (isPlace && sentence.words().contains(words)) {
+            if (sentence.promise() == promise && sentence.words().contains(words)) {
                 NAMED[i] = true;
                 isThere = true;
             }
         }
-        if (!isThere) {
-            Checks.fail("the document does not say \"" + words + "\" for promise " + promise);
-        }
+        return isThere;
     }
 
     /** Each sentence of the document must have been named; titles need not. */
