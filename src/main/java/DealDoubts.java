@@ -664,14 +664,16 @@ public final class DealDoubts {
         }
 
         private boolean isStuck(int deal) {
-            boolean isInDoubt = false;
+            int doubts = 0;
             for (int site = 0; site < SITES; site++) {
                 if (helperFor(deal, site) != NONE) {
                     return false;
                 }
-                isInDoubt |= isAwake(site) && stateOf(deal, site) == IN_DOUBT;
+                if (isAwake(site) && stateOf(deal, site) == IN_DOUBT) {
+                    doubts++;
+                }
             }
-            return isInDoubt;
+            return doubts > 0;
         }
 
         int countMembers() {

@@ -21,6 +21,7 @@ public final class ActionTextTest {
         promise30IsOneCall();
         promise30Refusals();
         promise30LongText();
+        promise30ShortActionAtTheLimit();
         Checks.end("ActionTextTest");
     }
 
@@ -255,5 +256,20 @@ public final class ActionTextTest {
         DealDoubts e = new DealDoubts();
         Checks.due("30: many ticks", runOf(e, "t20;".repeat(14) + "x0"), 15);
         Checks.due("30: after them", e.isUp(0), false);
+    }
+
+    /** An action of two characters at the very end of a full buffer has no character behind it. */
+    private static void promise30ShortActionAtTheLimit() {
+        String start = "t20;" + "t1;".repeat(18);
+        for (String action : new String[] {"d0", "x0", "u5", "t9"}) {
+            DealDoubts d = new DealDoubts();
+            d.begin(1, 7, 0);
+            d.fallSilent(5);
+            Checks.due("30: sixty characters, " + action, runOf(d, start + action), 20);
+            Checks.due("30: decision(0) after " + action, d.decision(0), action.equals("d0") ? 3 : 0);
+            Checks.due("30: isUp(0) after " + action, d.isUp(0), !action.equals("x0"));
+            Checks.due("30: isUp(5) after " + action, d.isUp(5), action.equals("u5"));
+            Checks.due("30: buffer after " + action, d.clearText(), 0);
+        }
     }
 }

@@ -81,6 +81,10 @@ public final class FaceTest {
         }
     }
 
+    private static boolean isOfTheFace(String name) {
+        return String.join(",", FACE).contains(" " + name + "(");
+    }
+
     private static String told(Method method) {
         List<String> types = new ArrayList<>();
         for (Class<?> type : method.getParameterTypes()) {
@@ -125,6 +129,10 @@ public final class FaceTest {
             boolean isHidden = !Modifier.isPublic(modifiers) && !Modifier.isProtected(modifiers);
             Checks.due(inside + " is static", Modifier.isStatic(modifiers), true);
             Checks.due(inside + " is private or package-visible", isHidden, true);
+            for (Method method : inside.getDeclaredMethods()) {
+                boolean isPrivate = Modifier.isPrivate(method.getModifiers());
+                Checks.due(method + " bears a name of its own", isPrivate && isOfTheFace(method.getName()), false);
+            }
         }
     }
 }

@@ -5,6 +5,7 @@ import com.sun.source.tree.MethodInvocationTree;
 import com.sun.source.tree.MethodTree;
 import com.sun.source.tree.NewArrayTree;
 import com.sun.source.tree.NewClassTree;
+import com.sun.source.tree.ThrowTree;
 import com.sun.source.tree.Tree;
 import com.sun.source.tree.VariableTree;
 import com.sun.source.util.JavacTask;
@@ -12,6 +13,9 @@ import com.sun.source.util.SourcePositions;
 import com.sun.source.util.TreePathScanner;
 import com.sun.source.util.Trees;
 import java.io.File;
+import java.io.IOException;
+import java.nio.file.Files;
+import java.nio.file.Path;
 import java.util.EnumSet;
 import java.util.HashMap;
 import java.util.HashSet;
@@ -51,7 +55,18 @@ public final class LanguageTest {
             reader.scan(unit, null);
             reader.report();
         }
+        dueSigns();
         Checks.end("LanguageTest");
+    }
+
+    private static void dueSigns() throws IOException {
+        int line = 1;
+        for (byte sign : Files.readAllBytes(Path.of(PROGRAM))) {
+            if (sign < 1) {
+                Checks.fail("line " + line + " has a sign that is not 1 to 127");
+            }
+            line += sign == '\n' ? 1 : 0;
+        }
     }
 
     private static final class Reader extends TreePathScanner<Void, Void> {
@@ -158,6 +173,15 @@ public final class LanguageTest {
                 Checks.due("line " + lineOf(tree) + " makes rows in a constructor", isConstructor, true);
             }
             return super.visitNewClass(tree, none);
+        }
+
+        @Override
+        public Void visitThrow(ThrowTree tree, Void none) {
+            boolean isNew = tree.getExpression() instanceof NewClassTree;
+            Checks.due("line " + lineOf(tree) + " throws a new exception", isNew, true);
+            boolean isConstructor = method == null || method.getSimpleName().contentEquals("<init>");
+            Checks.due("line " + lineOf(tree) + " throws in no constructor", isConstructor, false);
+            return super.visitThrow(tree, none);
         }
 
         @Override
